@@ -62,7 +62,7 @@ public final class Bagweave {
             for (int i = 0; i < count && i < places.length; i++) {
                 isFound = isFound || places[i] == bag;
                 if (isFound) {
-                    places[i] = at(i + 1);
+                    places[i] = i + 1 < count && i + 1 < places.length ? places[i + 1] : null;
                 }
             }
             if (isFound) {
@@ -133,15 +133,12 @@ public final class Bagweave {
         private Node bestTarget() {
             Node best = null;
             for (Node target : targets) {
-                if (target != null && target.cost < NO_WAY && (best == null || target.isBetterThan(best))) {
+                if (target != null && target.cost < NO_WAY && (best == null || target.cost < best.cost
+                        || target.cost == best.cost && target.number < best.number)) {
                     best = target;
                 }
             }
             return best;
-        }
-
-        private boolean isBetterThan(Node other) {
-            return cost < other.cost || cost == other.cost && number < other.number;
         }
     }
 
@@ -702,13 +699,10 @@ public final class Bagweave {
         }
     }
 
-    private Message messageFor(int tag) {
-        return tag >= 0 && tag < messages.length ? messages[tag] : null;
-    }
-
     /** The flight of the tag that was read; null if none was, or there is no message for it. */
     private Flight flightRead(Bag bag) {
-        Message message = messageFor(bag.tagRead);
+        int tag = bag.tagRead;
+        Message message = tag >= 0 && tag < messages.length ? messages[tag] : null;
         return message == null ? null : message.flight;
     }
 
@@ -765,7 +759,7 @@ public final class Bagweave {
         if (bag.isRush) {
             return true;
         }
-        Message message = messageFor(bag.tag);
+        Message message = bag.tag >= 0 && bag.tag < messages.length ? messages[bag.tag] : null;
         if (message == null || message.flight != flight || message.passenger == null) {
             return false;
         }
