@@ -159,7 +159,7 @@ public final class TickTest {
     }
 
     private static void anyLeavesAStore() {
-        for (char kind : new char[] {'e', 'c', 'm', 'b'}) {
+        for (char kind : new char[] {'e', 'c', 'm', 'b', 'r', 'i'}) {
             Bagweave x = new Bagweave();
             x.addNode('i', 1, 9, 0);
             x.addNode(kind, 1, 9, 0);
@@ -177,7 +177,7 @@ public final class TickTest {
                 x.carry(i, 1);
             }
             x.tick(1);
-            Check.due("behind one that stays in " + kind, kind == 'b' ? "1 1 1 " : "1 2 1 ", places(x));
+            Check.due("behind one that stays in " + kind, "bri".indexOf(kind) >= 0 ? "1 1 1 " : "1 2 1 ", places(x));
         }
     }
 
@@ -211,9 +211,18 @@ public final class TickTest {
         x.tick(5);
         Check.due("it wants to the level 1", 2, x.next(0));
         Check.due("but waits for the verdict", "1 ", places(x));
+        x.addBag(0, 7, 0, 'e');
+        x.carry(1, 3);
+        x.carry(1, 2);
+        x.tick(1);
+        x.carry(1, 1);
+        x.tick(5);
+        Check.due("a clear one stands behind it", "1 1 ", places(x));
         x.verdict(0, true);
         x.tick(1);
-        Check.due("then it goes on", "4 ", places(x));
+        Check.due("then it goes on", "4 1 ", places(x));
+        x.tick(1);
+        Check.due("and the next one", "4 4 ", places(x));
     }
 
     private static void ringGoesOn() {
