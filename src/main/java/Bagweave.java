@@ -165,8 +165,12 @@ public final class Bagweave {
             this.sort = sort;
         }
 
-        private boolean isHeldForVerdict() {
-            return node != null && node.kind == 's' && node.screenLevel == 3 && ticksLeft == 0 && !isCleared;
+        private boolean isDone() {
+            return ticksLeft == 0;
+        }
+
+        private boolean awaitsVerdict() {
+            return node != null && node.kind == 's' && node.screenLevel == 3 && isDone() && !isCleared;
         }
     }
 
@@ -427,7 +431,7 @@ public final class Bagweave {
     public int verdict(int bag, boolean isClear) throws IndexOutOfBoundsException, UnsupportedOperationException {
         Bag judged = bagOrThrow(bag);
         Node node = judged.node;
-        if (node == null || !judged.isHeldForVerdict()) {
+        if (node == null || !judged.awaitsVerdict()) {
             throw new UnsupportedOperationException("it does not wait for a verdict");
         }
         if (isClear) {
@@ -526,7 +530,7 @@ public final class Bagweave {
     }
 
     public boolean waitsForVerdict(int bag) throws IndexOutOfBoundsException {
-        return bagOrThrow(bag).isHeldForVerdict();
+        return bagOrThrow(bag).awaitsVerdict();
     }
 
     public int onNode(int node) throws IndexOutOfBoundsException {
@@ -909,7 +913,7 @@ public final class Bagweave {
         int candidates = node.letsOnlyFirst() ? 1 : node.row.count;
         for (int i = 0; i < candidates; i++) {
             Bag bag = node.row.at(i);
-            Node next = bag == null || !isDone(bag) ? null : findNext(bag);
+            Node next = bag == null || !bag.isDone() ? null : findNext(bag);
             if (bag != null && next != null && next.row.hasRoom() && !next.hasTaken) {
                 moveOn(bag, node, next);
                 return true;
@@ -923,10 +927,6 @@ public final class Bagweave {
         come(bag, next);
         node.hasLet = true;
         next.hasTaken = true;
-    }
-
-    private static boolean isDone(Bag bag) {
-        return bag.ticksLeft == 0 && !bag.isHeldForVerdict();
     }
 
     // ---- rings ----
@@ -969,7 +969,7 @@ public final class Bagweave {
         int candidates = node.letsOnlyFirst() ? 1 : node.row.count;
         for (int i = 0; i < candidates; i++) {
             Bag bag = node.row.at(i);
-            if (bag != null && isDone(bag) && !isWished(node, bag, wishOf(bag), chuteFor(bag))) {
+            if (bag != null && bag.isDone() && !isWished(node, bag, wishOf(bag), chuteFor(bag))) {
                 return bag;
             }
         }
@@ -1024,7 +1024,7 @@ public final class Bagweave {
 
     private Unit unitFor(Bag bag) {
         Flight flight = flightRead(bag);
-        if (flight == null || flight.state != 'o' || !bag.isCleared || bag.ticksLeft > 0) {
+        if (flight == null || flight.state != 'o' || !bag.isCleared || !bag.isDone()) {
             return null;
         }
         return flight.roomFor(bag.sort);

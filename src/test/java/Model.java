@@ -336,17 +336,13 @@ final class Model {
         return kind.get(n) == 'q' ? 0 : "ibrs".indexOf(kind.get(n)) >= 0 ? Math.min(1, on.get(n).size()) : on.get(n).size();
     }
 
-    private boolean mayLeave(int b) {
-        return bags.get(b)[LEFT] == 0 && !waitsForVerdict(b);
-    }
-
     private boolean push(int n) {
         if (let[n] || fault[n]) {
             return false;
         }
         for (int i = 0; i < leavers(n); i++) {
             int b = on.get(n).get(i);
-            int[] way = mayLeave(b) ? way(b) : null;
+            int[] way = bags.get(b)[LEFT] == 0 ? way(b) : null;
             if (way != null && hasRoom(way[1]) && !took[way[1]]) {
                 on.get(n).remove((Integer) b);
                 arrive(b, way[1]);
@@ -369,7 +365,7 @@ final class Model {
             int goer = -1;
             for (int i = 0; i < leavers(n) && goer < 0; i++) {
                 int b = on.get(n).get(i);
-                if (mayLeave(b) && !ends(b).contains(n)) {
+                if (bags.get(b)[LEFT] == 0 && !ends(b).contains(n)) {
                     goer = b;
                 }
             }

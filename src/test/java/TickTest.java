@@ -18,7 +18,10 @@ public final class TickTest {
         onlyTheFirstLeavesARow();
         anyLeavesAStore();
         noneLeavesProblems();
-        heldBagStays();
+        waitingBagStays();
+        bagsThatWantElsewhereLeaveTheLastLevel();
+        bagThatCannotLeaveTheLastLevelWaitsForAVerdict();
+        ringOverTheLastLevel();
         ringGoesOn();
         ringWithFaultStands();
         ringWithTicksToDoStands();
@@ -194,35 +197,124 @@ public final class TickTest {
         Check.due("it has no way", NoSuchElementException.class, () -> x.next(0));
     }
 
-    private static void heldBagStays() {
+    /**
+     * A screening of each level, the nodes 1, 2 and 3, all of length 1 but the last one's 2, a reader 4, a store 5 and
+     * a desk for coding 6, behind the last screening all of them; and a message for the tag 7. The input is 0.
+     */
+    private static Bagweave lastScreening() {
         Bagweave x = new Bagweave();
         x.addNode('i', 1, 9, 0);
-        x.addNode('s', 2, 9, 3);
         x.addNode('s', 1, 9, 1);
+        x.addNode('s', 1, 9, 2);
+        x.addNode('s', 2, 9, 3);
         x.addNode('r', 1, 9, 0);
         x.addNode('e', 1, 9, 0);
-        x.link(1, 2);
-        x.link(1, 4);
+        x.addNode('m', 1, 9, 0);
+        for (int to : new int[] {1, 2, 5, 6}) {
+            x.link(3, to);
+        }
         x.addFlight(90);
         x.message(7, 0, 0);
-        x.addBag(0, 7, 0, 'e');
+        return x;
+    }
+
+    /** Brings a bag, of the greatest suspicion, that has passed the levels up to one, and is not clear. */
+    private static void bringPassed(Bagweave x, int level) {
+        int bag = x.addBag(0, 7, 3, 'e');
+        x.carry(bag, 4);
+        for (int k = 1; k <= level; k++) {
+            x.carry(bag, k);
+            x.tick(1);
+        }
+    }
+
+    private static void waitingBagStays() {
+        Bagweave x = lastScreening();
+        bringPassed(x, 2);
         x.carry(0, 3);
-        x.carry(0, 1);
-        x.tick(5);
-        Check.due("it wants to the level 1", 2, x.next(0));
-        Check.due("but waits for the verdict", "1 ", places(x));
         x.addBag(0, 7, 0, 'e');
-        x.carry(1, 3);
-        x.carry(1, 2);
-        x.tick(1);
+        x.carry(1, 4);
         x.carry(1, 1);
+        x.tick(1);
+        x.carry(1, 3);
         x.tick(5);
-        Check.due("a clear one stands behind it", "1 1 ", places(x));
+        Check.due("it waits", true, x.waitsForVerdict(0));
+        Check.due("it has what it wants", NoSuchElementException.class, () -> x.next(0));
+        Check.due("a clear one stands behind it", "3 3 ", places(x));
         x.verdict(0, true);
         x.tick(1);
-        Check.due("then it goes on", "4 1 ", places(x));
+        Check.due("then it goes on", "5 3 ", places(x));
         x.tick(1);
-        Check.due("and the next one", "4 4 ", places(x));
+        Check.due("and the next one", "5 5 ", places(x));
+    }
+
+    private static void bagsThatWantElsewhereLeaveTheLastLevel() {
+        Bagweave unread = lastScreening();
+        unread.carry(unread.addBag(0, 7, 0, 'e'), 3);
+        unread.tick(1);
+        Check.due("a tick to do", "3 ", places(unread));
+        unread.tick(1);
+        Check.due("one that was not read, to a desk", "6 ", places(unread));
+        Check.due("it does not wait there", false, unread.waitsForVerdict(0));
+        Check.due("it is not clear", false, unread.isClear(0));
+        Check.due("it has passed nothing", 0, unread.level(0));
+        for (int level = 0; level <= 1; level++) {
+            Bagweave early = lastScreening();
+            bringPassed(early, level);
+            early.carry(0, 3);
+            early.tick(2);
+            Check.due("one that has passed " + level, 1 + level + " ", places(early));
+            Check.due("it has passed no more", level, early.level(0));
+        }
+        Bagweave noMessage = lastScreening();
+        noMessage.carry(noMessage.addBag(0, 8, 0, 'e'), 4);
+        noMessage.carry(0, 3);
+        noMessage.tick(2);
+        Check.due("one without a message, to a desk", "6 ", places(noMessage));
+    }
+
+    private static void bagThatCannotLeaveTheLastLevelWaitsForAVerdict() {
+        Bagweave x = lastScreening();
+        x.setFault(6, true);
+        x.carry(x.addBag(0, 7, 3, 'e'), 3);
+        x.tick(3);
+        Check.due("it has no way to a desk", "3 ", places(x));
+        Check.due("so it waits", true, x.waitsForVerdict(0));
+        Check.due("where it is", 3, x.verdict(0, true));
+        Check.due("it wants to a desk still", 'm', x.goal(0));
+        x.setFault(6, false);
+        x.tick(1);
+        Check.due("and goes there", "6 ", places(x));
+    }
+
+    private static void ringOverTheLastLevel() {
+        for (int level = 0; level <= 2; level++) {
+            Bagweave x = new Bagweave();
+            x.addNode('i', 1, 9, 0);
+            x.addNode('s', 1, 1, 3);
+            x.addNode('b', 1, 1, 0);
+            x.addNode('s', 1, 1, 1);
+            x.addNode('s', 1, 1, 2);
+            x.addNode('r', 1, 9, 0);
+            for (int[] link : new int[][] {{1, 2}, {2, 1}, {2, 3}, {2, 4}}) {
+                x.link(link[0], link[1]);
+            }
+            x.addFlight(90);
+            x.message(7, 0, 0);
+            for (int bag = 0; bag <= 1; bag++) {
+                x.carry(x.addBag(0, 7, 3, 'e'), 5);
+                for (int k = 1; k <= (bag == 0 ? level : 2); k++) {
+                    x.carry(bag, 2 + k);
+                    x.tick(1);
+                }
+                x.carry(bag, 0);
+            }
+            x.carry(0, 1);
+            x.carry(1, 2);
+            x.tick(1);
+            Check.due("the level " + level + " passed", level < 2 ? "2 1 " : "1 2 ", places(x));
+            Check.due("rings, the level " + level + " passed", level < 2 ? 1 : 0, x.rings());
+        }
     }
 
     private static void ringGoesOn() {
