@@ -605,8 +605,9 @@ public final class TickTest {
         x.setFault(0, false);
         x.tick(1);
         x.setOff(0, true);
-        while (x.ticks() < 9998) {
-            x.tick(Math.min(60, 9998 - x.ticks()));
+        int now = x.ticks();
+        while (now < 9998) {
+            now = x.tick(Math.min(60, 9998 - now));
         }
         Check.due("still there", "u ", places(x));
         Check.due("the last time", 2, x.addFlight(9999));
