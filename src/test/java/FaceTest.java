@@ -21,6 +21,7 @@ public final class FaceTest {
         privateNamesAreOthers();
         statePartsAreFew();
         sourceKeepsOutOfWhatIsBarred();
+        methodsAreShort();
         Check.end();
     }
 
@@ -113,5 +114,25 @@ public final class FaceTest {
             Check.due("an import that is meant: " + line, true,
                     !line.startsWith("import ") || line.equals("import java.util.NoSuchElementException;"));
         }
+    }
+
+    /** A method begins with a line that ends in a brace behind a round one, and ends with a brace of the same indent. */
+    private static void methodsAreShort() throws IOException {
+        int methods = 0;
+        int length = 0;
+        String end = "";
+        for (String line : Files.readAllLines(Path.of("src/main/java/Bagweave.java"))) {
+            length++;
+            Check.due("a line of signs up to 126: " + line, true, line.chars().allMatch(sign -> sign <= 126));
+            if (line.matches(" {4}( {4})?(public|private) .*\\(.*") && !line.endsWith(";")) {
+                methods++;
+                length = 1;
+                end = line.replaceAll("\\S.*", "") + "}";
+            } else if (line.equals(end)) {
+                Check.due("at most 60 lines, up to " + line, true, length <= 60);
+                end = "";
+            }
+        }
+        Check.due("methods were found", true, methods >= Bagweave.class.getDeclaredMethods().length);
     }
 }
